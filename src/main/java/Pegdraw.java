@@ -39,8 +39,6 @@ public final class Pegdraw {
         }
     }
 
-    // ---- the bank ----
-
     public int swim(int depth, int snags)
             throws IllegalArgumentException, UnsupportedOperationException, IllegalStateException {
         needRange(depth, 1, 9);
@@ -80,8 +78,6 @@ public final class Pegdraw {
         draws.z = z;
         return before;
     }
-
-    // ---- fish ----
 
     public int stock(int swim, int kind, int length)
             throws IndexOutOfBoundsException, IllegalArgumentException, IllegalStateException {
@@ -143,8 +139,6 @@ public final class Pegdraw {
         return prey.number;
     }
 
-    // ---- anglers, pegs and stakes ----
-
     public int angler(int skill)
             throws IllegalArgumentException, UnsupportedOperationException, IllegalStateException {
         needRange(skill, 1, 9);
@@ -189,8 +183,6 @@ public final class Pegdraw {
         hat += cents;
         return hat;
     }
-
-    // ---- the match ----
 
     public int begin(int minutes) throws IllegalArgumentException, UnsupportedOperationException {
         needRange(minutes, 10, 300);
@@ -294,8 +286,6 @@ public final class Pegdraw {
         return anglerAt(angler).net.weight;
     }
 
-    // ---- scales and slips ----
-
     public int setError(int scale, int grams) throws IllegalArgumentException {
         needRange(scale, 0, 1);
         needRange(grams, -50, 50);
@@ -339,8 +329,6 @@ public final class Pegdraw {
         return slip.grams;
     }
 
-    // ---- results and the league ----
-
     public int matches() {
         return results.size();
     }
@@ -366,8 +354,6 @@ public final class Pegdraw {
         }
         throw new NoSuchElementException("no such place in the league");
     }
-
-    // ---- money and bailiffs ----
 
     public int pot() {
         return pot;
@@ -437,8 +423,6 @@ public final class Pegdraw {
         return fund;
     }
 
-    // ---- sums over the bank ----
-
     public long mass(char what) throws IllegalArgumentException {
         switch (what) {
             case 's':
@@ -484,8 +468,6 @@ public final class Pegdraw {
     public boolean isSound() {
         return bank.massCloses() && bank.levelsAreInRange() && anglersAreSound();
     }
-
-    // ---- what calls need ----
 
     private static void needRange(int number, int from, int to) {
         if (number < from || number > to) {
@@ -547,8 +529,6 @@ public final class Pegdraw {
         }
         return one.line;
     }
-
-    // ---- how a match goes ----
 
     private void givePeg(Angler one) {
         one.peg = freePegBehind(draws.rest(countFreePegs()));
@@ -656,8 +636,6 @@ public final class Pegdraw {
             anglers[i].line = NONE;
         }
     }
-
-    // ---- how results are told ----
 
     private boolean allAreWeighed() {
         for (int i = 0; i < anglerCount; i++) {
@@ -770,8 +748,6 @@ public final class Pegdraw {
         }
         return true;
     }
-
-    // ---- levels of 0 to 99 ----
 
     private static int more(int level, int by) {
         return Math.min(FULL, level + by);
