@@ -687,12 +687,10 @@ public final class Pegdraw {
 
     private int best(boolean ofStakersAlone) {
         int best = NONE;
-        int most = NONE;
         for (int i = 0; i < anglerCount; i++) {
-            int grams = anglers[i].slip.grams;
-            if (grams > most && (anglers[i].staked || !ofStakersAlone)) {
+            boolean counts = anglers[i].staked || !ofStakersAlone;
+            if (counts && (best == NONE || anglers[i].slip.grams > anglers[best].slip.grams)) {
                 best = i;
-                most = grams;
             }
         }
         return best;
