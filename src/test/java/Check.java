@@ -1,3 +1,4 @@
+import java.util.NoSuchElementException;
 import java.util.function.LongSupplier;
 
 /** Counts answers that are not due; a test's main ends with end(). */
@@ -24,9 +25,9 @@ final class Check {
         tell(holds, what);
     }
 
-    /** A refused call throws exactly this and leaves the checksum as it was. */
+    /** A refused call throws exactly this and leaves all that the bank holds as it was. */
     static void refused(String what, Pegdraw bank, Class<? extends Exception> want, LongSupplier call) {
-        long before = bank.checksum();
+        String before = Held.by(bank);
         String got;
         try {
             got = "answered " + call.getAsLong();
@@ -34,7 +35,31 @@ final class Check {
             got = e.getClass() == want ? null : "threw " + e;
         }
         tell(got == null, what + " " + got + ", due is " + want.getSimpleName());
-        tell(bank.checksum() == before, what + " changed the bank");
+        tell(Held.by(bank).equals(before), what + " changed the bank");
+    }
+
+    static void argument(String what, Pegdraw bank, LongSupplier call) {
+        refused(what, bank, IllegalArgumentException.class, call);
+    }
+
+    static void index(String what, Pegdraw bank, LongSupplier call) {
+        refused(what, bank, IndexOutOfBoundsException.class, call);
+    }
+
+    static void unsupported(String what, Pegdraw bank, LongSupplier call) {
+        refused(what, bank, UnsupportedOperationException.class, call);
+    }
+
+    static void state(String what, Pegdraw bank, LongSupplier call) {
+        refused(what, bank, IllegalStateException.class, call);
+    }
+
+    static void noSuch(String what, Pegdraw bank, LongSupplier call) {
+        refused(what, bank, NoSuchElementException.class, call);
+    }
+
+    static void arithmetic(String what, Pegdraw bank, LongSupplier call) {
+        refused(what, bank, ArithmeticException.class, call);
     }
 
     private static void tell(boolean right, String what) {

@@ -36,12 +36,6 @@ public final class MatchTest {
         Check.end();
     }
 
-    private static int z(Pegdraw x) {
-        int z = x.seed(1);
-        x.seed(z);
-        return z;
-    }
-
     private static void cast() {
         Pegdraw x = Scene.bank(3, 0, 1, 1);
         Check.refused("cast before the draw", x, UNSUPPORTED, () -> x.cast(0, -1) ? 1 : 0);
@@ -184,7 +178,7 @@ public final class MatchTest {
         x.seed(seed);
         x.pass(1);
         boolean bitten = x.account(0, 'l') + x.account(0, 'm') + x.account(0, 'h') > before;
-        Check.isTrue("draws with a rest of " + rest, bitten != (z(x) == Seeds.next(seed)));
+        Check.isTrue("draws with a rest of " + rest, bitten != (Scene.z(x) == Seeds.next(seed)));
         return bitten;
     }
 
@@ -209,12 +203,12 @@ public final class MatchTest {
         Pegdraw x = Scene.match(0, 5);
         x.stock(1, 0, 40);
         x.cast(0, 0);
-        int before = z(x);
+        int before = Scene.z(x);
         x.pass(1);
-        Check.due("no draw without a fish", z(x), before);
+        Check.due("no draw without a fish", Scene.z(x), before);
         x.reel(0);
         x.pass(1);
-        Check.due("no draw without a line", z(x), before);
+        Check.due("no draw without a line", Scene.z(x), before);
     }
 
     private static void hook() {
@@ -230,7 +224,7 @@ public final class MatchTest {
         Pegdraw y = oneFish(9, 4);
         y.seed(seed);
         y.pass(1);
-        Check.due("two draws when missed", z(y), Seeds.next(Seeds.next(seed)));
+        Check.due("two draws when missed", Scene.z(y), Seeds.next(Seeds.next(seed)));
         Pegdraw hooked = oneFish(0, 4);
         hooked.seed(Seeds.withRests(100, 3, 10, 3));
         hooked.pass(1);
@@ -245,7 +239,7 @@ public final class MatchTest {
         Check.due("lost", x.account(0, 'h'), 1);
         Check.due("not missed", x.account(0, 'm'), 0);
         Check.due("20 more, 1 less", x.of(0, 'f'), 19);
-        Check.due("three draws", z(x), Seeds.next(Seeds.next(Seeds.next(seed))));
+        Check.due("three draws", Scene.z(x), Seeds.next(Seeds.next(Seeds.next(seed))));
         Check.due("hunger as the minute of 0 has it", x.of(0, 'h'), 51);
         Pegdraw y = oneFish(6, 9);
         y.seed(Seeds.withRests(100, 0, 10, 8, 20, 6));
@@ -575,7 +569,7 @@ public final class MatchTest {
         int before = x.account(0, 'l');
         x.pass(5);
         Check.due("fishes in the last minute", x.account(0, 'l'), before + 1);
-        Check.due("and no more behind it", z(x), Seeds.next(Seeds.next(Seeds.next(seed))));
+        Check.due("and no more behind it", Scene.z(x), Seeds.next(Seeds.next(Seeds.next(seed))));
         Check.due("pass goes on", x.minute(), 14);
         Check.due("ended", x.phase(), 'e');
         Check.refused("line is out", x, NO_SUCH, () -> x.lineOf(0));

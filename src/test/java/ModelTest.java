@@ -5,6 +5,8 @@ import java.util.function.Supplier;
 public final class ModelTest {
     private static final int RUNS = 1500;
     private static final int CALLS = 512;
+    /** In the first runs all that the bank holds is looked at, too: refused calls must leave it as it was. */
+    private static final int RUNS_LOOKED_INTO = 60;
     private static final String LETTERS = "klghfscumnwedtx";
     private static final int[] WRONG = {-1, -2, 10, 60, 121, 301, Integer.MIN_VALUE, Integer.MAX_VALUE};
 
@@ -110,12 +112,14 @@ public final class ModelTest {
     }
 
     private void same(String what, Supplier<Object> real, Supplier<String> due) {
+        String held = heldNow();
         String got;
         try {
             Object answer = real.get();
             got = answer instanceof Boolean ? ((Boolean) answer ? "1" : "0") : answer.toString();
         } catch (RuntimeException e) {
             got = e.getClass().getSimpleName();
+            Check.isTrue("run " + run + ": " + what + " was refused and changed the bank", held.equals(heldNow()));
         }
         String want = due.get();
         log.append("    ").append(what).append(" -> ").append(got).append('\n');
@@ -125,6 +129,10 @@ public final class ModelTest {
             System.out.print(log);
         }
         Check.isTrue("run " + run + ": " + what + " answered " + got + ", due is " + want, right);
+    }
+
+    private String heldNow() {
+        return run < RUNS_LOOKED_INTO ? Held.by(bank) : "";
     }
 
     private void call(int which) {

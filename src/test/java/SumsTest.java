@@ -12,33 +12,8 @@ public final class SumsTest {
         Check.end();
     }
 
-    /** One fish each in the water, in a net, eaten, dead and taken; lengths 30 to 34. */
-    private static Pegdraw oneOfEach() {
-        Pegdraw x = new Pegdraw();
-        x.swim(5, 0);
-        x.swim(1, 0);
-        x.swim(5, 0);
-        x.angler(9);
-        x.angler(9);
-        Scene.draw(x, 3, new int[] {0, 1}, 0);
-        x.begin(300);
-        x.stock(0, 0, 30);
-        x.cast(0, 0);
-        Scene.land(x, 0);
-        x.reel(0);
-        x.stock(2, 1, 31);
-        x.stock(2, 2, 32);
-        x.stock(1, 3, 33);
-        x.stock(0, 0, 34);
-        x.eat(2);
-        x.poach(0);
-        x.setWarmth(30);
-        x.pass(59);
-        return x;
-    }
-
     private static void mass() {
-        Pegdraw x = oneOfEach();
+        Pegdraw x = Scene.oneOfEach();
         Check.due("in nets", x.mass('n'), 337);
         Check.due("in the water", x.mass('w'), 372);
         Check.due("eaten", x.mass('e'), 409);
@@ -57,7 +32,7 @@ public final class SumsTest {
     }
 
     private static void checksum() {
-        Pegdraw x = oneOfEach();
+        Pegdraw x = Scene.oneOfEach();
         x.feed(1, 3);
         long sum = 7;
         int[] hungers = {20, x.of(1, 'h'), x.of(2, 'h'), x.of(3, 'h'), x.of(4, 'h')};
@@ -69,8 +44,7 @@ public final class SumsTest {
         sum = ((sum * 31) * 31 + 3) * 31;
         sum = (sum * 31 + 337) * 31;
         sum = (sum * 31) * 31;
-        int z = x.seed(1);
-        x.seed(z);
+        int z = Scene.z(x);
         sum = (((sum * 31) * 31 + 20) * 31 + 60) * 31 + z;
         Check.due("checksum", x.checksum(), sum);
         Pegdraw y = Scene.bank(2, 0, 9, 9);
@@ -104,7 +78,7 @@ public final class SumsTest {
         x.eat(0);
         x.eat(0);
         Check.due("none in the water", x.waterShare(), 0.0f);
-        Check.due("one in five", oneOfEach().waterShare(), 1.0f / 5.0f);
+        Check.due("one in five", Scene.oneOfEach().waterShare(), 1.0f / 5.0f);
     }
 
     private static void meanLength() {
@@ -122,7 +96,7 @@ public final class SumsTest {
     }
 
     private static void isSound() {
-        Pegdraw x = oneOfEach();
+        Pegdraw x = Scene.oneOfEach();
         Check.due("sound", x.isSound(), true);
         Scene.end(x);
         Check.due("sound before the scales", x.isSound(), true);
