@@ -110,6 +110,9 @@ final class DrawEdges {
         Doc.says("Promise 14", "Throws `UnsupportedOperationException` if pegs are drawn");
         Doc.says("Terms", "as all were, the match is over, its results are told, and pegs can be drawn again.");
         Edge.onlyIn("n", "draw", (x, n) -> x.draw());
+        Pegdraw wide = withAnglers(2);
+        wide.draw();
+        Check.unsupported("draw again, eight open pegs being left", wide, wide::draw);
         Pegdraw x = Edge.inPhase('e');
         x.weigh(0, 0);
         Check.unsupported("draw, as one net was weighed", x, x::draw);

@@ -133,6 +133,17 @@ final class MinuteEdges {
         feedIs(x, 0, 50);
         x.pass(9);
         feedIs(x, 0, 1);
+        Scene.weighAll(x, 2);
+        x.swim(5, 0);
+        feedIs(x, 0, 1, 0);
+        Pegdraw full = Scene.bank(10, 0, 1, 1);
+        Scene.draw(full, 10, new int[] {8, 9}, 0);
+        full.begin(10);
+        Scene.feedTo(full, 0, 20);
+        Scene.feedTo(full, 1, 20);
+        full.setFlow(9);
+        full.pass(1);
+        feedIs(full, 0, 0, 0, 0, 0, 0, 0, 0, 10, 20);
     }
 
     /** A fish in the upper one of three swims, its fright brought to 58 by being put back twice. */

@@ -77,17 +77,34 @@ final class SumsEdges {
             x.feed(i, 20);
         }
         x.poach(3);
-        for (int i = 0; i < 8; i++) {
-            x.pass(50);
+        int[] minutes = {1, 9, 50, 120, 120};
+        for (int some : minutes) {
+            x.pass(some);
             Check.due("checksum", x.checksum(), checksumByHand(x));
-            if (x.phase() == 'e') {
-                x.weigh(i, 0);
-                x.round(3);
-                Check.due("checksum behind a scale", x.checksum(), checksumByHand(x));
-            }
         }
+        x.round(3);
+        for (int i = 0; i < 8; i++) {
+            x.weigh(i, 0);
+            Check.due("checksum behind a scale", x.checksum(), checksumByHand(x));
+        }
+        checksumTellsOfAll();
         Pegdraw y = Scene.oneOfEach();
         Check.due("checksum with one of each state", y.checksum(), checksumByHand(y));
+    }
+
+    /** What a row of numbers could hide: a feed, and what was won, that are not 0. */
+    private static void checksumTellsOfAll() {
+        Pegdraw x = Edge.inPhase('m');
+        x.feed(1, 7);
+        long start = ((7L * 31 * 31 + 7) * 31) * 31 * 31 * 31 * 31;
+        Check.due("checksum with feed", x.checksum(), (((start * 31) * 31 + 20) * 31) * 31 + Scene.z(x));
+        Pegdraw y = Edge.inPhase('d');
+        y.stake(1, 50);
+        Scene.end(y);
+        Scene.weighAll(y, 2);
+        Check.due("won", y.won(1), 45);
+        start = (((7L * 31 * 31 * 31) * 31 * 31) * 31 * 31 + 45) * 31 + 5;
+        Check.due("checksum with what was won", y.checksum(), ((start * 31 + 20) * 31 + 10) * 31 + Scene.z(y));
     }
 
     private static long checksumByHand(Pegdraw x) {
@@ -181,6 +198,13 @@ final class SumsEdges {
         Scene.feedTo(y, 0, 99);
         Check.due("feed of 99", y.isSound(), true);
         Check.due("a new bank", new Pegdraw().isSound(), true);
+        Doc.says("Promise 51", "what was stocked is in the water, in nets, eaten, dead or taken");
+        Check.due("one of each state", Scene.oneOfEach().isSound(), true);
+        Pegdraw full = Edge.matchOf(8);
+        for (int i = 0; i < 60; i++) {
+            full.stock(i % 10, 0, 90);
+        }
+        Check.due("a full bank", full.isSound(), true);
         Edge.inAllPhases("isSound", (some, n) -> some.isSound() ? 1 : 0);
     }
 }
