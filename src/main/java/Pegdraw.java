@@ -6,6 +6,7 @@ public final class Pegdraw {
     private static final int NONE = -1;
     private static final int FULL = 99;
     private static final int LAST_MINUTE = 9999;
+    private static final int MOST_ANGLERS = 8;
 
     private static final char NO_PEGS = 'n';
     private static final char PEGS_DRAWN = 'd';
@@ -20,7 +21,7 @@ public final class Pegdraw {
 
     private final Bank bank = new Bank();
     private final Draws draws = new Draws();
-    private final Angler[] anglers = new Angler[8];
+    private final Angler[] anglers = new Angler[MOST_ANGLERS];
     private int anglerCount = 0;
     private final int[] errors = new int[2];
     private final ArrayList<Result> results = new ArrayList<Result>();
@@ -158,7 +159,7 @@ public final class Pegdraw {
         for (int i = 0; i < anglerCount; i++) {
             givePeg(anglers[i]);
         }
-        golden = anglers[draws.rest(anglerCount)].peg;
+        golden = pegGivenTo(draws.rest(anglerCount));
         pot += 10 * anglerCount;
         stage = PEGS_DRAWN;
         return golden;
@@ -481,8 +482,12 @@ public final class Pegdraw {
         }
     }
 
+    private boolean isAngler(int angler) {
+        return angler >= 0 && angler < anglerCount;
+    }
+
     private void needAngler(int angler) {
-        if (angler < 0 || angler >= anglerCount) {
+        if (!isAngler(angler)) {
             throw new IndexOutOfBoundsException("no such angler");
         }
     }
@@ -536,8 +541,12 @@ public final class Pegdraw {
         one.slip.renew();
     }
 
+    private int pegGivenTo(int angler) {
+        return isAngler(angler) ? anglers[angler].peg : NONE;
+    }
+
     private boolean isFreePeg(int swim) {
-        return bank.swims[swim].open && anglerWithPegAt(swim) == null;
+        return bank.hasSwim(swim) && bank.swims[swim].open && anglerWithPegAt(swim) == null;
     }
 
     private int countFreePegs() {
@@ -608,7 +617,7 @@ public final class Pegdraw {
         if (draws.rest(10) >= one.skill) {
             one.missed++;
             fish.frighten(5);
-        } else if (draws.rest(20) < bank.swims[fish.swim].snags) {
+        } else if (draws.rest(20) < bank.snagsAt(fish.swim)) {
             one.lost++;
             fish.frighten(20);
         } else {
@@ -620,7 +629,7 @@ public final class Pegdraw {
         one.landed++;
         fish.landings++;
         fish.hunger = less(fish.hunger, 30);
-        if (fish.length < bank.least[fish.kind] || !one.net.hasRoomFor(fish)) {
+        if (bank.isShort(fish) || !one.net.hasRoomFor(fish)) {
             one.putBack++;
             fish.frighten(30);
         } else {
@@ -647,7 +656,7 @@ public final class Pegdraw {
     }
 
     private void finishMatch() {
-        Result result = new Result(anglers.length);
+        Result result = new Result();
         for (int i = 0; i < anglerCount; i++) {
             int points = pointsByRules(anglers[i]);
             result.points[i] = points;
@@ -825,6 +834,19 @@ public final class Pegdraw {
             return swim >= 0 && swim < swimCount;
         }
 
+        /** Where there is no swim there is no feed: it calls no fish. */
+        int feedAt(int swim) {
+            return hasSwim(swim) ? swims[swim].feed : 0;
+        }
+
+        int snagsAt(int swim) {
+            return hasSwim(swim) ? swims[swim].snags : 0;
+        }
+
+        boolean isShort(Fish one) {
+            return one.kind >= 0 && one.kind < least.length && one.length < least[one.kind];
+        }
+
         int addSwim(int depth, int snags) {
             Swim one = swims[swimCount];
             one.depth = depth;
@@ -887,7 +909,7 @@ public final class Pegdraw {
         }
 
         int urgeToBite(Fish one) {
-            int lure = Math.min(30, 3 * swims[one.swim].feed);
+            int lure = Math.min(30, 3 * feedAt(one.swim));
             return one.hunger + lure - one.fright - 2 * flow;
         }
 
@@ -931,10 +953,10 @@ public final class Pegdraw {
         /** The upper swim is looked at first, and so is kept when the lower one has as much feed. */
         int richestNear(int own) {
             int richest = own;
-            if (hasSwim(own - 1) && swims[own - 1].feed > swims[richest].feed) {
+            if (feedAt(own - 1) > feedAt(richest)) {
                 richest = own - 1;
             }
-            if (hasSwim(own + 1) && swims[own + 1].feed > swims[richest].feed) {
+            if (feedAt(own + 1) > feedAt(richest)) {
                 richest = own + 1;
             }
             return richest;
@@ -1123,11 +1145,7 @@ public final class Pegdraw {
 
     /** What was told of a match that is over. */
     private static final class Result {
-        final int[] points;
+        final int[] points = new int[MOST_ANGLERS];
         int winner = NONE;
-
-        Result(int places) {
-            points = new int[places];
-        }
     }
 }

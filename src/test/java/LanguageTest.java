@@ -31,6 +31,9 @@ public final class LanguageTest {
         absent(code, "rule 13", "\\b(System|Thread|Random|Clock|Runtime)\\b");
         absent(code, "rule 10, texts are not joined by +", "\"\\s*\\+|\\+\\s*\"");
         absent(code, "rule 9, loops are counted", "\\b(while|do)\\b");
+        onlyTestedDivisors(code);
+        onlyLengthsThatAreKnown(code);
+        onlyCastsOfNumbers(code);
         onlyKnownCalls(code);
         onlyKnownExceptions(code);
         methodsAreShort(lines);
@@ -45,6 +48,27 @@ public final class LanguageTest {
     private static void absent(String code, String rule, String pattern) {
         Matcher found = Pattern.compile(pattern).matcher(code);
         Check.isTrue(rule + (found.find() ? ": " + found.group() : ""), !found.reset().find());
+    }
+
+    /** Constants, numbers that are no int, and the one divisor that its own line tests. */
+    private static void onlyTestedDivisors(String code) {
+        Matcher found = Pattern.compile("[/%]=?\\s*(.*)").matcher(code);
+        while (found.find()) {
+            boolean isTested = found.group(1).startsWith("divisor ") && code.contains("divisor > 0 ? z % divisor :");
+            Check.isTrue("rule 7, a divisor: " + found.group(),
+                    isTested || found.group(1).matches("([1-9][0-9]*\\b|MODULUS\\b|\\(float\\) |\\(double\\) ).*"));
+        }
+    }
+
+    private static void onlyLengthsThatAreKnown(String code) {
+        Matcher found = Pattern.compile("new \\w+\\[([^\\]]*)\\]").matcher(code);
+        while (found.find()) {
+            Check.isTrue("rule 7, a length: " + found.group(), found.group(1).matches("[0-9]+|[A-Z_]+"));
+        }
+    }
+
+    private static void onlyCastsOfNumbers(String code) {
+        absent(code, "rule 7, a cast", "\\([A-Z]\\w*\\) ?[\\w(]");
     }
 
     private static void onlyKnownCalls(String code) {

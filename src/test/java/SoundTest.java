@@ -1,6 +1,3 @@
-import java.lang.reflect.Array;
-import java.lang.reflect.Field;
-
 /** Promise 51: no call makes a bank unsound, so this breaks one thing at a time from inside. */
 public final class SoundTest {
     public static void main(String[] args) throws ReflectiveOperationException {
@@ -27,7 +24,7 @@ public final class SoundTest {
         Pegdraw over = match();
         Scene.end(over);
         Check.due("no line behind it", over.isSound(), true);
-        set(over, "anglers.0.line", 1);
+        Inside.set(over, "anglers.0.line", 1);
         Check.due("a line behind it", over.isSound(), false);
         Check.end();
     }
@@ -43,26 +40,11 @@ public final class SoundTest {
 
     private static Pegdraw with(String path, Object value) throws ReflectiveOperationException {
         Pegdraw x = match();
-        set(x, path, value);
+        Inside.set(x, path, value);
         return x;
     }
 
     private static void broken(String what, String path, Object value) throws ReflectiveOperationException {
         Check.due(what, with(path, value).isSound(), false);
-    }
-
-    private static void set(Object from, String path, Object value) throws ReflectiveOperationException {
-        String[] steps = path.split("\\.");
-        Object at = from;
-        for (int i = 0; i < steps.length - 1; i++) {
-            at = at.getClass().isArray() ? Array.get(at, Integer.parseInt(steps[i])) : field(at, steps[i]).get(at);
-        }
-        field(at, steps[steps.length - 1]).set(at, value);
-    }
-
-    private static Field field(Object of, String name) throws ReflectiveOperationException {
-        Field field = of.getClass().getDeclaredField(name);
-        field.setAccessible(true);
-        return field;
     }
 }
